@@ -1,0 +1,319 @@
+import java.util.ArrayList;
+import java.util.List;
+
+/**
+ * Runs of calls, made up by a fixed row of numbers, on the program and on the Oracle.
+ * Arguments: how many runs of each kind (60 without), the number that the row starts with.
+ */
+public final class OracleRuns {
+    private static final int KINDS = 6;
+    private static final String[] NAMES = {"wide", "tell", "drop", "weigh", "atMost", "say", "sentence", "clear",
+        "score", "sign", "step", "run", "anew", "forget", "blank", "knock", "clause", "ofClause", "trail",
+        "trailed", "line", "house", "typed", "fault", "models", "model", "fixed", "part", "ofVariable", "assume",
+        "failing", "follows", "core", "leastCore", "best", "isSound", "digest"};
+    /** How often each method is called, by kind: mixed, hard searches, no MODEL, typing, full, wrong arguments. */
+    private static final int[][] OFTEN = {
+        {1, 30, 4, 4, 3, 6, 4, 1, 6, 6, 20, 10, 4, 4, 1, 1, 6, 12, 8, 6, 6, 8, 2, 2, 4, 6, 4, 6, 8, 6, 6, 6, 4, 2, 4,
+            3, 6},
+        {0, 0, 0, 1, 0, 0, 0, 0, 1, 2, 2, 2, 0, 0, 0, 0, 2, 4, 3, 2, 4, 3, 0, 0, 0, 0, 0, 0, 0, 0, 0, 1, 0, 0, 0,
+            2, 8},
+        {1, 60, 10, 4, 6, 1, 1, 1, 4, 4, 10, 20, 4, 4, 1, 1, 4, 6, 4, 4, 4, 4, 1, 1, 4, 2, 4, 4, 4, 4, 10, 10, 10, 10,
+            10, 6, 10},
+        {2, 2, 2, 1, 1, 90, 20, 5, 1, 1, 2, 4, 1, 1, 1, 1, 6, 2, 1, 1, 1, 4, 10, 30, 4, 4, 2, 2, 2, 2, 2, 2, 2, 2, 2,
+            2, 6},
+        {0, 60, 6, 8, 20, 2, 12, 0, 4, 4, 10, 20, 4, 4, 1, 1, 6, 10, 4, 4, 4, 6, 1, 1, 4, 4, 4, 6, 8, 6, 6, 6, 6, 4, 8,
+            4, 8},
+        {4, 10, 4, 4, 4, 4, 4, 2, 4, 4, 4, 4, 2, 4, 1, 1, 4, 8, 8, 2, 4, 4, 2, 2, 2, 4, 2, 4, 8, 8, 8, 8, 2, 2, 2, 2,
+            4}};
+
+    private long seed;
+    private final int kind;
+    private final Clausehall program = new Clausehall();
+    private final Oracle oracle = new Oracle();
+    private final List<String> calls = new ArrayList<>();
+
+    private OracleRuns(int kind, long seed) {
+        this.kind = kind;
+        this.seed = seed;
+    }
+
+    private int upTo(int bound) {
+        seed = seed * 6364136223846793005L + 1442695040888963407L;
+        return (int) Math.floorMod(seed >>> 33, (long) bound);
+    }
+
+    private int between(int least, int most) {
+        return least + upTo(most - least + 1);
+    }
+
+    private boolean isOnce(int in) {
+        return upTo(in) == 0;
+    }
+
+    private int wild() {
+        int[] all = {-1, 0, 13, 1 << 12, Integer.MIN_VALUE, Integer.MAX_VALUE, -13, 64, -2, 100, 41, 31};
+        return all[upTo(all.length)];
+    }
+
+    private int literal() {
+        int v = between(1, oracle.house(0));
+        return isOnce(2) ? v : -v;
+    }
+
+    private int set() {
+        return upTo(1 << oracle.house(0)) & (isOnce(2) ? -1 : upTo(1 << 12));
+    }
+
+    private int number() {
+        return upTo(oracle.house(3) + 1);
+    }
+
+    private int[] argumentsOf(int method) {
+        int[] a = new int[6];
+        switch (method) {
+            case 0: a[0] = between(1, 12); break;
+            case 1: told(a); break;
+            case 2: case 16: a[0] = number(); break;
+            case 3: a[0] = number(); a[1] = between(0, 9); break;
+            case 4: a[0] = set(); a[1] = upTo(4); break;
+            case 5: codes(a); break;
+            case 8: a[0] = between(1, oracle.house(0)); a[1] = isOnce(2) ? between(0, 3) : between(0, 99); break;
+            case 9: a[0] = between(1, oracle.house(0)); a[1] = upTo(2); break;
+            case 11: a[0] = isOnce(3) ? 60 : between(1, 20); break;
+            case 13: a[0] = between(0, 40); break;
+            case 17: a[0] = number(); a[1] = upTo(8); break;
+            case 18: a[0] = upTo(oracle.house(6) + 1); a[1] = upTo(3); break;
+            case 20: a[0] = upTo(oracle.house(7) + 2); break;
+            case 21: a[0] = upTo(16); break;
+            case 25: a[0] = upTo(oracle.models() + 2); break;
+            case 27: a[0] = upTo(oracle.house(11) + 1); a[1] = upTo(2); break;
+            case 28: a[0] = between(1, oracle.house(0)); a[1] = upTo(4); break;
+            case 29: case 30: case 31:
+                a[0] = set();
+                a[1] = set() & ~(isOnce(20) ? 0 : a[0]);
+                break;
+            case 34: a[0] = upTo(2); break;
+            default: break;
+        }
+        if (isOnce(kind == 5 ? 3 : 40)) {
+            a[upTo(3)] = wild();
+        }
+        return a;
+    }
+
+    private void told(int[] a) {
+        int many = isOnce(60) ? 0 : kind == 2 ? between(1, 3) : between(1, 4);
+        for (int n = 0; n < many; n++) {
+            a[upTo(4)] = literal();
+        }
+        a[4] = between(0, 9);
+    }
+
+    /** Codes that often go on as a SENTENCE does. */
+    private void codes(int[] a) {
+        int letters = isOnce(2) ? 4 : 12;
+        for (int n = 0; n < 6; n++) {
+            boolean isBehindFactor = n % 2 == 1;
+            a[n] = isBehindFactor ? between(13, 16) : upTo(letters);
+            if (isOnce(4)) {
+                a[n] = between(-1, 18);
+            } else if (isOnce(6)) {
+                a[n] = isBehindFactor ? 18 : isOnce(2) ? 12 : 17;
+            } else if (isOnce(30)) {
+                a[n] = between(19, 20);
+            }
+        }
+    }
+
+    private static String answerOf(Clausehall x, int method, int[] a) {
+        switch (method) {
+            case 0: return "" + x.wide(a[0]);
+            case 1: return "" + x.tell(a[0], a[1], a[2], a[3], a[4]);
+            case 2: return "" + x.drop(a[0]);
+            case 3: return "" + x.weigh(a[0], a[1]);
+            case 4: return "" + x.atMost(a[0], a[1]);
+            case 5: return "" + x.say(a[0], a[1], a[2], a[3], a[4], a[5]);
+            case 6: return "" + x.sentence();
+            case 7: return "" + x.clear();
+            case 8: return "" + x.score(a[0], a[1]);
+            case 9: return "" + x.sign(a[0], a[1] != 0);
+            case 10: return "" + x.step();
+            case 11: return "" + x.run(a[0]);
+            case 12: return "" + x.anew();
+            case 13: return "" + x.forget(a[0]);
+            case 14: return "" + x.blank();
+            case 15: return "" + x.knock();
+            case 16: return "" + x.clause(a[0]);
+            case 17: return "" + x.ofClause(a[0], a[1]);
+            case 18: return "" + x.trail(a[0], a[1]);
+            case 19: return "" + x.trailed();
+            case 20: return "" + x.line(a[0]);
+            case 21: return "" + x.house(a[0]);
+            case 22: return "" + x.typed();
+            case 23: return "" + x.fault();
+            case 24: return "" + x.models();
+            case 25: return "" + x.model(a[0]);
+            case 26: return "" + x.fixed();
+            case 27: return "" + x.part(a[0], a[1] != 0);
+            case 28: return "" + x.ofVariable(a[0], a[1]);
+            case 29: return "" + x.assume(a[0], a[1]);
+            case 30: return "" + x.failing(a[0], a[1]);
+            case 31: return "" + x.follows(a[0], a[1]);
+            case 32: return "" + x.core();
+            case 33: return "" + x.leastCore();
+            case 34: return "" + x.best(a[0] != 0);
+            case 35: return "" + x.isSound();
+            default: return "" + x.digest();
+        }
+    }
+
+    private static String dueOf(Oracle x, int method, int[] a) {
+        switch (method) {
+            case 0: return "" + x.wide(a[0]);
+            case 1: return "" + x.tell(a[0], a[1], a[2], a[3], a[4]);
+            case 2: return "" + x.drop(a[0]);
+            case 3: return "" + x.weigh(a[0], a[1]);
+            case 4: return "" + x.atMost(a[0], a[1]);
+            case 5: return "" + x.say(a[0], a[1], a[2], a[3], a[4], a[5]);
+            case 6: return "" + x.sentence();
+            case 7: return "" + x.clear();
+            case 8: return "" + x.score(a[0], a[1]);
+            case 9: return "" + x.sign(a[0], a[1] != 0);
+            case 10: return "" + x.step();
+            case 11: return "" + x.run(a[0]);
+            case 12: return "" + x.anew();
+            case 13: return "" + x.forget(a[0]);
+            case 14: return "" + x.blank();
+            case 15: return "" + x.knock();
+            case 16: return "" + x.clause(a[0]);
+            case 17: return "" + x.ofClause(a[0], a[1]);
+            case 18: return "" + x.trail(a[0], a[1]);
+            case 19: return "" + x.trailed();
+            case 20: return "" + x.line(a[0]);
+            case 21: return "" + x.house(a[0]);
+            case 22: return "" + x.typed();
+            case 23: return "" + x.fault();
+            case 24: return "" + x.models();
+            case 25: return "" + x.model(a[0]);
+            case 26: return "" + x.fixed();
+            case 27: return "" + x.part(a[0], a[1] != 0);
+            case 28: return "" + x.ofVariable(a[0], a[1]);
+            case 29: return "" + x.assume(a[0], a[1]);
+            case 30: return "" + x.failing(a[0], a[1]);
+            case 31: return "" + x.follows(a[0], a[1]);
+            case 32: return "" + x.core();
+            case 33: return "" + x.leastCore();
+            case 34: return "" + x.best(a[0] != 0);
+            case 35: return "" + x.isSound();
+            default: return "" + x.digest();
+        }
+    }
+
+    private boolean isAlike(int method, int... given) {
+        int[] a = java.util.Arrays.copyOf(given, 6);
+        String answer;
+        String due;
+        try {
+            due = dueOf(oracle, method, a);
+        } catch (RuntimeException e) {
+            due = "throws." + e.getClass().getSimpleName();
+        }
+        try {
+            answer = answerOf(program, method, a);
+        } catch (RuntimeException e) {
+            answer = "throws." + e.getClass().getSimpleName();
+        }
+        calls.add(NAMES[method] + java.util.Arrays.toString(a) + " " + answer);
+        if (!answer.equals(due)) {
+            System.out.println(String.join("\n", calls));
+            System.out.println("due is " + due);
+            return false;
+        }
+        return true;
+    }
+
+    private int drawMethod() {
+        int sum = 0;
+        for (int often : OFTEN[kind]) {
+            sum += often;
+        }
+        int left = upTo(sum);
+        for (int method = 0; method < OFTEN[kind].length; method++) {
+            left -= OFTEN[kind][method];
+            if (left < 0) {
+                return method;
+            }
+        }
+        return 0;
+    }
+
+    /**
+     * Sums of four VARIABLES that must be odd or even, two of them in each: chosen last, these two show
+     * late that the others are wrong, so that each way of the others gives conflicts of its own.
+     */
+    private boolean beginsHard() {
+        boolean isFine = isAlike(0, between(8, 12));
+        int shift = upTo(oracle.house(0));
+        for (int n = 0; n < 3 && isFine; n++) {
+            int a = (shift + n * 2) % oracle.house(0);
+            int b = (shift + n * 2 + 1) % oracle.house(0);
+            int c = (shift + 6) % oracle.house(0);
+            int d = (shift + 7) % oracle.house(0);
+            isFine = isAlike(5, 20, isOnce(2) ? 12 : -1, a, 16, b, 16) && isAlike(5, c, 16, d, -1, -1, -1)
+                    && isAlike(6) && isAlike(8, a + 1, between(50, 60)) && isAlike(8, b + 1, between(50, 60));
+        }
+        return isFine;
+    }
+
+    private boolean isRunAlike(int many) {
+        if (kind == 1 && !beginsHard()) {
+            return false;
+        }
+        if (kind != 1 && isOnce(2) && !isAlike(0, kind == 2 ? between(1, 6) : between(1, 12))) {
+            return false;
+        }
+        while (calls.size() < many - 7) {
+            int method = drawMethod();
+            if (!isAlike(method, argumentsOf(method)) || kind == 1 && !searchesAnew()) {
+                return false;
+            }
+        }
+        return true;
+    }
+
+    private boolean searchesAnew() {
+        boolean isFine = true;
+        for (int n = between(0, 4); n > 0 && isFine; n--) {
+            isFine = isAlike(9, between(1, oracle.house(0)), upTo(2));
+        }
+        return isFine && isAlike(12) && isAlike(11, 60);
+    }
+
+    public static void main(String[] args) {
+        int runs = args.length > 0 ? Integer.parseInt(args[0]) : 60;
+        long seed = args.length > 1 ? Long.parseLong(args[1]) : 1;
+        int wrong = 0;
+        int mostLearned = 0;
+        int forgotten = 0;
+        for (int n = 0; n < runs * KINDS; n++) {
+            OracleRuns run = new OracleRuns(n % KINDS, seed * 1000003 + n * 7919L);
+            if (!run.isRunAlike(n % 3 < 2 ? 512 : 150)) {
+                System.out.println("run " + n + " of kind " + run.kind + " is wrong");
+                wrong++;
+                break;
+            }
+            mostLearned = Math.max(mostLearned, run.oracle.mostLearned);
+            forgotten += run.oracle.forgottenBySearch;
+        }
+        System.out.println("runs against the oracle: " + runs * KINDS + ", most learned " + mostLearned
+                + ", forgotten by searches " + forgotten);
+        if (runs >= 60 && (mostLearned < 40 || forgotten == 0)) {
+            System.out.println("the runs do not reach 40 LEARNED clauses");
+            wrong++;
+        }
+        System.out.println(wrong == 0 ? "1 passed, 0 failed" : "0 passed, 1 failed");
+        if (wrong != 0) {
+            System.exit(1);
+        }
+    }
+}

@@ -1,4 +1,5 @@
 import java.util.ArrayList;
+import java.util.Arrays;
 import java.util.BitSet;
 import java.util.Comparator;
 import java.util.List;
@@ -45,7 +46,7 @@ final class Oracle {
     int forgottenBySearch;
 
     Oracle() {
-        java.util.Arrays.fill(signs, true);
+        Arrays.fill(signs, true);
     }
 
     // ---- helpers
@@ -237,7 +238,8 @@ final class Oracle {
         return sets.size();
     }
 
-    int say(int... codes) {
+    int say(int a, int b, int c, int d, int e, int f) {
+        int[] codes = {a, b, c, d, e, f};
         for (int code : codes) {
             check(code >= -1 && code <= 20);
         }

@@ -1,4 +1,8 @@
+import java.lang.reflect.InvocationTargetException;
+import java.lang.reflect.Method;
+import java.lang.reflect.Modifier;
 import java.util.ArrayList;
+import java.util.Arrays;
 import java.util.List;
 
 /**
@@ -125,105 +129,41 @@ public final class OracleRuns {
         }
     }
 
-    private static String answerOf(Clausehall x, int method, int[] a) {
-        switch (method) {
-            case 0: return "" + x.wide(a[0]);
-            case 1: return "" + x.tell(a[0], a[1], a[2], a[3], a[4]);
-            case 2: return "" + x.drop(a[0]);
-            case 3: return "" + x.weigh(a[0], a[1]);
-            case 4: return "" + x.atMost(a[0], a[1]);
-            case 5: return "" + x.say(a[0], a[1], a[2], a[3], a[4], a[5]);
-            case 6: return "" + x.sentence();
-            case 7: return "" + x.clear();
-            case 8: return "" + x.score(a[0], a[1]);
-            case 9: return "" + x.sign(a[0], a[1] != 0);
-            case 10: return "" + x.step();
-            case 11: return "" + x.run(a[0]);
-            case 12: return "" + x.anew();
-            case 13: return "" + x.forget(a[0]);
-            case 14: return "" + x.blank();
-            case 15: return "" + x.knock();
-            case 16: return "" + x.clause(a[0]);
-            case 17: return "" + x.ofClause(a[0], a[1]);
-            case 18: return "" + x.trail(a[0], a[1]);
-            case 19: return "" + x.trailed();
-            case 20: return "" + x.line(a[0]);
-            case 21: return "" + x.house(a[0]);
-            case 22: return "" + x.typed();
-            case 23: return "" + x.fault();
-            case 24: return "" + x.models();
-            case 25: return "" + x.model(a[0]);
-            case 26: return "" + x.fixed();
-            case 27: return "" + x.part(a[0], a[1] != 0);
-            case 28: return "" + x.ofVariable(a[0], a[1]);
-            case 29: return "" + x.assume(a[0], a[1]);
-            case 30: return "" + x.failing(a[0], a[1]);
-            case 31: return "" + x.follows(a[0], a[1]);
-            case 32: return "" + x.core();
-            case 33: return "" + x.leastCore();
-            case 34: return "" + x.best(a[0] != 0);
-            case 35: return "" + x.isSound();
-            default: return "" + x.digest();
+    private static Method find(Class<?> type, String name) {
+        for (Method method : type.getDeclaredMethods()) {
+            if (method.getName().equals(name) && !Modifier.isPrivate(method.getModifiers())) {
+                return method;
+            }
         }
+        throw new AssertionError(name);
     }
 
-    private static String dueOf(Oracle x, int method, int[] a) {
-        switch (method) {
-            case 0: return "" + x.wide(a[0]);
-            case 1: return "" + x.tell(a[0], a[1], a[2], a[3], a[4]);
-            case 2: return "" + x.drop(a[0]);
-            case 3: return "" + x.weigh(a[0], a[1]);
-            case 4: return "" + x.atMost(a[0], a[1]);
-            case 5: return "" + x.say(a[0], a[1], a[2], a[3], a[4], a[5]);
-            case 6: return "" + x.sentence();
-            case 7: return "" + x.clear();
-            case 8: return "" + x.score(a[0], a[1]);
-            case 9: return "" + x.sign(a[0], a[1] != 0);
-            case 10: return "" + x.step();
-            case 11: return "" + x.run(a[0]);
-            case 12: return "" + x.anew();
-            case 13: return "" + x.forget(a[0]);
-            case 14: return "" + x.blank();
-            case 15: return "" + x.knock();
-            case 16: return "" + x.clause(a[0]);
-            case 17: return "" + x.ofClause(a[0], a[1]);
-            case 18: return "" + x.trail(a[0], a[1]);
-            case 19: return "" + x.trailed();
-            case 20: return "" + x.line(a[0]);
-            case 21: return "" + x.house(a[0]);
-            case 22: return "" + x.typed();
-            case 23: return "" + x.fault();
-            case 24: return "" + x.models();
-            case 25: return "" + x.model(a[0]);
-            case 26: return "" + x.fixed();
-            case 27: return "" + x.part(a[0], a[1] != 0);
-            case 28: return "" + x.ofVariable(a[0], a[1]);
-            case 29: return "" + x.assume(a[0], a[1]);
-            case 30: return "" + x.failing(a[0], a[1]);
-            case 31: return "" + x.follows(a[0], a[1]);
-            case 32: return "" + x.core();
-            case 33: return "" + x.leastCore();
-            case 34: return "" + x.best(a[0] != 0);
-            case 35: return "" + x.isSound();
-            default: return "" + x.digest();
+    /** What a method answers, or which exception it throws; a boolean argument is true for all but 0. */
+    private static String answerOf(Object target, int method, int[] a) {
+        Method called = find(target.getClass(), NAMES[method]);
+        Class<?>[] types = called.getParameterTypes();
+        Object[] arguments = new Object[types.length];
+        for (int n = 0; n < types.length; n++) {
+            if (types[n] == boolean.class) {
+                arguments[n] = a[n] != 0;
+            } else {
+                arguments[n] = a[n];
+            }
+        }
+        try {
+            return String.valueOf(called.invoke(target, arguments));
+        } catch (InvocationTargetException e) {
+            return "throws." + e.getCause().getClass().getSimpleName();
+        } catch (IllegalAccessException e) {
+            throw new AssertionError(e);
         }
     }
 
     private boolean isAlike(int method, int... given) {
-        int[] a = java.util.Arrays.copyOf(given, 6);
-        String answer;
-        String due;
-        try {
-            due = dueOf(oracle, method, a);
-        } catch (RuntimeException e) {
-            due = "throws." + e.getClass().getSimpleName();
-        }
-        try {
-            answer = answerOf(program, method, a);
-        } catch (RuntimeException e) {
-            answer = "throws." + e.getClass().getSimpleName();
-        }
-        calls.add(NAMES[method] + java.util.Arrays.toString(a) + " " + answer);
+        int[] a = Arrays.copyOf(given, 6);
+        String due = answerOf(oracle, method, a);
+        String answer = answerOf(program, method, a);
+        calls.add(NAMES[method] + Arrays.toString(a) + " " + answer);
         if (!answer.equals(due)) {
             System.out.println(String.join("\n", calls));
             System.out.println("due is " + due);

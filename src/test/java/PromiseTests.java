@@ -244,6 +244,7 @@ public final class PromiseTests {
         Check.due("8 ORDER", "1 2 3 4/1 2 3 -4/-1 -2 -3 4", x.clause(2) + "/" + x.clause(3) + "/" + x.clause(16));
         Check.fails("8 full", STATE, x::sentence);
         Check.due("8 full", 17, x.house(1));
+        promise8Thirty();
         // from left to right, and from right to left
         Check.due("8 a>b>c", "-1 -2 3", clausesOf(0, 15, 1, 15, 2));
         Check.due("8 a=b=c", "1 2 3;1 -2 -3;-1 2 -3;-1 -2 3", clausesOf(0, 16, 1, 16, 2));
@@ -254,6 +255,19 @@ public final class PromiseTests {
         Check.due("8 a*!a", "1;-1", clausesOf(0, 13, 12, 0));
         Check.due("8 ((((!a))))", "-1", clausesOf(17, 17, 17, 17, 12, 0, 18, 18, 18, 18));
         Check.due("8 twelve", "-2 12", clausesOf(1, 15, 11));
+    }
+
+    private static void promise8Thirty() {
+        Clausehall x = typing(0, 13, 1, 13, 2, 13, 3);
+        Check.due("8 fifteen", 15, x.sentence());
+        Check.due("8 thirty", 15, x.sentence());
+        failsUnchanged("8 more", x, STATE, x::sentence);
+        type(x, 20, 0, 14, 12, 0);
+        x.step();
+        Check.due("8 none at thirty", 0, x.sentence());
+        Check.due("8 starts anew", 0, x.house(6));
+        type(x, 14);
+        Check.due("8 fault at thirty", -1, x.sentence());
     }
 
     private static void promise8Nothing(Clausehall x) {
@@ -638,6 +652,8 @@ public final class PromiseTests {
         Check.due("28 fixed", "1 -2 -4", x.fixed());
         x.tell(3, 0, 0, 0, 1);
         Check.due("28 fixed", "1 -2 3 -4 5", x.fixed());
+        x.tell(-6, 0, 0, 0, 1);
+        Check.due("28 last", "1 -2 3 -4 5 -6", x.fixed());
     }
 
     private static void promise29() {

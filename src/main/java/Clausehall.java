@@ -597,12 +597,12 @@ public final class Clausehall {
         int trues = yes;
         int falses = no;
         for (int n = 0; n <= MOST_VARIABLES; n++) {
-            if (store.firstTold(Clause.FALSE, trues, falses) != null) {
+            if (store.first(Clause.FALSE, trues, falses, true) != null) {
                 words.text.setLength(0);
                 words.text.append('!');
                 return;
             }
-            Clause unit = store.firstTold(Clause.UNIT, trues, falses);
+            Clause unit = store.first(Clause.UNIT, trues, falses, true);
             if (unit == null) {
                 return;
             }
@@ -868,21 +868,12 @@ public final class Clausehall {
             version++;
         }
 
-        /** The first CLAUSE in this state, or null. */
-        Clause first(int state, int trues, int falses) {
+        /** The first CLAUSE, or the first told one, in this state; null if there is none. */
+        Clause first(int state, int trues, int falses, boolean isToldAlone) {
             for (int n = 0; n < clauses.size(); n++) {
                 Clause clause = clauses.get(n);
-                if (clause.state(trues, falses) == state) {
-                    return clause;
-                }
-            }
-            return null;
-        }
-
-        Clause firstTold(int state, int trues, int falses) {
-            for (int n = 0; n < clauses.size(); n++) {
-                Clause clause = clauses.get(n);
-                if (!clause.isLearned && clause.state(trues, falses) == state) {
+                boolean isMeant = !isToldAlone || !clause.isLearned;
+                if (isMeant && clause.state(trues, falses) == state) {
                     return clause;
                 }
             }
@@ -1085,11 +1076,11 @@ public final class Clausehall {
             if (answer != NO_ANSWER) {
                 return DID_NOTHING;
             }
-            Clause conflict = store.first(Clause.FALSE, trues, falses);
+            Clause conflict = store.first(Clause.FALSE, trues, falses, false);
             if (conflict != null) {
                 return learnFrom(conflict, store);
             }
-            Clause unit = store.first(Clause.UNIT, trues, falses);
+            Clause unit = store.first(Clause.UNIT, trues, falses, false);
             if (unit != null) {
                 push(unit.literalLeft(trues | falses), unit);
                 return DID_UNIT;

@@ -50,7 +50,7 @@ public final class LanguageTest {
                 start = n;
             }
             if (line.matches("    (    )?\\}")) {
-                Check.due("some sixty lines up to line " + (n + 1), true, n - start < 60 || line.length() == 5);
+                Check.due("some sixty lines up to line " + (n + 1), true, n - start < 60);
             }
         }
     }

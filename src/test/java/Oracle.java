@@ -92,6 +92,17 @@ final class Oracle {
         return c;
     }
 
+    private int comeAll(List<TreeSet<Integer>> sets) {
+        if (told().size() + sets.size() > 30) {
+            throw new IllegalStateException();
+        }
+        startAnew();
+        for (TreeSet<Integer> set : sets) {
+            come(set, 1, false);
+        }
+        return sets.size();
+    }
+
     private void startAnew() {
         trail.clear();
         answer = 0;
@@ -228,14 +239,7 @@ final class Oracle {
         }
         List<TreeSet<Integer>> sets = new ArrayList<>();
         subsets(from, 0, many + 1, new TreeSet<>(ORDER), sets);
-        if (told().size() + sets.size() > 30) {
-            throw new IllegalStateException();
-        }
-        startAnew();
-        for (TreeSet<Integer> set : sets) {
-            come(set, 1, false);
-        }
-        return sets.size();
+        return comeAll(sets);
     }
 
     int say(int a, int b, int c, int d, int e, int f) {
@@ -273,14 +277,7 @@ final class Oracle {
         List<Integer> variables = new ArrayList<>(letters);
         List<TreeSet<Integer>> sets = new ArrayList<>();
         wrongWays(variables, new ArrayList<>(), sets);
-        if (told().size() + sets.size() > 30) {
-            throw new IllegalStateException();
-        }
-        startAnew();
-        for (TreeSet<Integer> set : sets) {
-            come(set, 1, false);
-        }
-        return sets.size();
+        return comeAll(sets);
     }
 
     /** chosen has the true LITERALS of the first VARIABLES. */

@@ -527,7 +527,7 @@ public final class Clausehall {
     private void writeLine(int nth) {
         words.text.setLength(0);
         Proof proof = search.proof;
-        if (nth >= proof.lines) {
+        if (nth < 0 || nth >= proof.lines) {
             words.text.append('!');
             return;
         }
@@ -1511,7 +1511,7 @@ public final class Clausehall {
             mostFalse = truth.mostFalse();
             orderPlaces(truth);
             for (int many = 1; many <= MOST_CHOSEN; many++) {
-                if (mostFalse * many >= truth.places() && covers(truth, 0, many)) {
+                if (mostFalse * many >= truth.places() && covers(this, truth, 0, many)) {
                     return many;
                 }
             }
@@ -1539,8 +1539,8 @@ public final class Clausehall {
         }
 
         /** Whether so many CLAUSES more leave no place open; the first open place needs one of its own. */
-        private boolean covers(Truth truth, int depth, int left) {
-            int place = firstOpen(truth, depth);
+        private static boolean covers(Cover cover, Truth truth, int depth, int left) {
+            int place = cover.firstOpen(truth, depth);
             if (place == NONE) {
                 return true;
             }
@@ -1551,11 +1551,12 @@ public final class Clausehall {
                 if (!truth.isFalseAt(nth, place)) {
                     continue;
                 }
-                int stillOpen = narrow(truth, depth, nth);
+                int stillOpen = cover.narrow(truth, depth, nth);
                 if (stillOpen == 0) {
                     return true;
                 }
-                if (stillOpen <= (left - 1) * mostFalse && covers(truth, depth + 1, left - 1)) {
+                boolean canDo = stillOpen <= (left - 1) * cover.mostFalse;
+                if (canDo && covers(cover, truth, depth + 1, left - 1)) {
                     return true;
                 }
             }

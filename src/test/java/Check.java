@@ -8,8 +8,18 @@ final class Check {
 
     private static int passed;
     private static int failed;
+    private static String what = "";
 
     private Check() {
+    }
+
+    /** Says what the next ones hold the program against. */
+    static void begin(String heading) {
+        what = heading;
+    }
+
+    static int made() {
+        return passed + failed;
     }
 
     static void due(String name, Object want, Object got) {
@@ -17,7 +27,7 @@ final class Check {
             passed++;
         } else {
             failed++;
-            System.out.println(name + " answered " + got + ", due is " + want);
+            System.out.println((what.isEmpty() ? "" : what + "\n    ") + name + " answered " + got + ", due is " + want);
         }
     }
 
@@ -26,9 +36,14 @@ final class Check {
         try {
             got = call.answer();
         } catch (RuntimeException e) {
-            got = e.getClass();
+            got = isThrownByProgram(e) ? e.getClass() : e + " of the machine or its library";
         }
         due(name, want, got);
+    }
+
+    /** An exception of a list's own comes from deeper than the program. */
+    private static boolean isThrownByProgram(RuntimeException e) {
+        return e.getStackTrace().length > 0 && e.getStackTrace()[0].getClassName().startsWith("Clausehall");
     }
 
     static void end() {

@@ -658,11 +658,12 @@ final class Oracle {
             weights += c.weight;
         }
         int free = 0;
-        for (int v = 1; v <= width; v++) {
+        for (int v = 1; v <= width && what == 15; v++) {
             free += partOf(v) == 0 ? 1 : 0;
         }
+        int parts = what == 11 ? partSets().size() : 0;
         int[] all = {width, told().size(), learned().size(), ever, answer, level(), trail.size(), proof.size(),
-            blanks, knocks, weights, partSets().size(), typed.length(), choices, learnings, free};
+            blanks, knocks, weights, parts, typed.length(), choices, learnings, free};
         return all[what];
     }
 
@@ -738,7 +739,9 @@ final class Oracle {
     /** The set of the VARIABLES that are of one PART with v; 0 if v is of none. */
     private int partOf(int v) {
         TreeSet<Integer> set = new TreeSet<>();
-        for (int round = 0; round < 14; round++) {
+        int before = -1;
+        while (set.size() > before) {
+            before = set.size();
             for (Clause c : told()) {
                 boolean isOne = false;
                 for (int l : c.literals) {

@@ -4,18 +4,22 @@ import java.lang.reflect.Modifier;
 import java.util.ArrayList;
 import java.util.Arrays;
 import java.util.List;
+import java.util.stream.Collectors;
+import java.util.stream.IntStream;
 
 /**
  * Runs of calls, made up by a fixed row of numbers, on the program and on the Oracle.
  * Arguments: how many runs of each kind (60 without), the number that the row starts with.
  */
 public final class OracleRuns {
-    private static final int KINDS = 6;
+    private static final int KINDS = 7;
+    private static final int FORTY = 6;
     private static final String[] NAMES = {"wide", "tell", "drop", "weigh", "atMost", "say", "sentence", "clear",
         "score", "sign", "step", "run", "anew", "forget", "blank", "knock", "clause", "ofClause", "trail",
         "trailed", "line", "house", "typed", "fault", "models", "model", "fixed", "part", "ofVariable", "assume",
         "failing", "follows", "core", "leastCore", "best", "isSound", "digest"};
-    /** How often each method is called, by kind: mixed, hard searches, no MODEL, typing, full, wrong arguments. */
+    /** How often each method is called, by kind: mixed, hard searches, no MODEL, typing, full, wrong arguments, forty
+     * LEARNED clauses. */
     private static final int[][] OFTEN = {
         {1, 30, 4, 4, 3, 6, 4, 1, 6, 6, 20, 10, 4, 4, 1, 1, 6, 12, 8, 6, 6, 8, 2, 2, 4, 6, 4, 6, 8, 6, 6, 6, 4, 2, 4,
             3, 6},
@@ -28,13 +32,20 @@ public final class OracleRuns {
         {0, 60, 6, 8, 20, 2, 12, 0, 4, 4, 10, 20, 4, 4, 1, 1, 6, 10, 4, 4, 4, 6, 1, 1, 4, 4, 4, 6, 8, 6, 6, 6, 6, 4, 8,
             4, 8},
         {4, 10, 4, 4, 4, 4, 4, 2, 4, 4, 4, 4, 2, 4, 1, 1, 4, 8, 8, 2, 4, 4, 2, 2, 2, 4, 2, 4, 8, 8, 8, 8, 2, 2, 2, 2,
-            4}};
+            4},
+        {0, 0, 0, 1, 0, 0, 0, 0, 1, 1, 2, 2, 0, 0, 0, 0, 2, 4, 3, 2, 4, 3, 0, 0, 0, 0, 0, 0, 0, 0, 0, 1, 0, 0, 0, 2,
+            6}};
 
     private long seed;
     private final int kind;
     private final Clausehall program = new Clausehall();
     private final Oracle oracle = new Oracle();
     private final List<String> calls = new ArrayList<>();
+    /** In runs of kind FORTY the LITERAL that stands for each VARIABLE of class Forty, and which are true. */
+    private final int[] places = new int[13];
+    private final boolean[] trues = new boolean[13];
+    private int searches;
+    private boolean isFine;
 
     private OracleRuns(int kind, long seed) {
         this.kind = kind;
@@ -163,13 +174,8 @@ public final class OracleRuns {
         int[] a = Arrays.copyOf(given, 6);
         String due = answerOf(oracle, method, a);
         String answer = answerOf(program, method, a);
-        calls.add(NAMES[method] + Arrays.toString(a) + " " + answer);
-        if (!answer.equals(due)) {
-            System.out.println(String.join("\n", calls));
-            System.out.println("due is " + due);
-            return false;
-        }
-        return true;
+        calls.add(NAMES[method] + Arrays.toString(a) + " " + answer + (answer.equals(due) ? "" : ", due is " + due));
+        return answer.equals(due);
     }
 
     private int drawMethod() {
@@ -205,16 +211,80 @@ public final class OracleRuns {
         return isFine;
     }
 
+    /** The CLAUSES of class Forty, with other VARIABLES and SIGNS. */
+    private boolean beginsForty() {
+        boolean isFine = isAlike(0, 12);
+        for (int v = 1; v <= 12; v++) {
+            int other = between(1, v);
+            places[v] = places[other];
+            places[other] = isOnce(2) ? v : -v;
+        }
+        for (int v = 1; v <= 12 && isFine; v++) {
+            trues[v] = places[v] > 0;
+            isFine = isAlike(8, Math.abs(places[v]), 90 - v);
+        }
+        for (int v = 1; v <= 8 && isFine; v++) {
+            isFine = tellPlaces(-v, -11, 12, 0) && tellPlaces(-v, -11, -12, 0);
+        }
+        for (int v = 1; v <= 3 && isFine; v++) {
+            for (int w = v + 1; w <= 4 && isFine; w++) {
+                isFine = tellPlaces(-v, -w, 9, 10) && tellPlaces(-v - 4, -w - 4, 9, -10);
+            }
+        }
+        return isFine;
+    }
+
+    private boolean tellPlaces(int a, int b, int c, int d) {
+        return isAlike(1, placeOf(a), placeOf(b), placeOf(c), placeOf(d), between(0, 9));
+    }
+
+    private int placeOf(int literal) {
+        return literal < 0 ? -places[-literal] : places[literal];
+    }
+
+    private boolean makesTrue(int v, boolean is) {
+        if (trues[v] == is) {
+            return true;
+        }
+        trues[v] = is;
+        return isAlike(9, Math.abs(places[v]), places[v] > 0 == is ? 1 : 0);
+    }
+
+    /** Two of 1 to 4 and two of 5 to 8 are true and 9 is false, or fewer of them and 11 are. */
+    private boolean searchesForty() {
+        boolean isPairs = !isOnce(4);
+        searches += isPairs ? 1 : 0;
+        int[] lowPair = {0x12, 0x13, 0x14, 0x23, 0x24, 0x34};
+        int pair = lowPair[searches * 5 / 6 % 6] * 0x100 + lowPair[searches * 5 % 6] + 0x44;
+        int low = isPairs ? pair >> 12 : 0;
+        int otherLow = isPairs ? pair >> 8 & 15 : 0;
+        int high = isPairs ? pair >> 4 & 15 : between(1, 8);
+        int otherHigh = isPairs ? pair & 15 : 0;
+        boolean isFine = makesTrue(9, false) && makesTrue(11, !isPairs || isOnce(8));
+        for (int v = 1; v <= 8 && isFine; v++) {
+            isFine = makesTrue(v, v == low || v == otherLow || v == high || v == otherHigh);
+        }
+        return isFine && isAlike(12) && isAlike(11, 60);
+    }
+
+    /** A run of so many calls, or as far as the first one that is answered wrongly. */
+    private static OracleRuns made(int n, long seed) {
+        OracleRuns run = new OracleRuns(n % KINDS, seed * 1000003 + n * 7919L);
+        run.isFine = run.isRunAlike(n % 3 < 2 || run.kind == FORTY ? 512 : 150);
+        return run;
+    }
+
     private boolean isRunAlike(int many) {
-        if (kind == 1 && !beginsHard()) {
+        if (kind == 1 && !beginsHard() || kind == FORTY && !beginsForty()) {
             return false;
         }
-        if (kind != 1 && isOnce(2) && !isAlike(0, kind == 2 ? between(1, 6) : between(1, 12))) {
+        if (kind != 1 && kind != FORTY && isOnce(2) && !isAlike(0, kind == 2 ? between(1, 6) : between(1, 12))) {
             return false;
         }
-        while (calls.size() < many - 7) {
+        while (calls.size() < many - 13) {
             int method = drawMethod();
-            if (!isAlike(method, argumentsOf(method)) || kind == 1 && !searchesAnew()) {
+            if ((kind != FORTY || isOnce(4)) && !isAlike(method, argumentsOf(method)) || kind == 1 && !searchesAnew()
+                    || kind == FORTY && !searchesForty()) {
                 return false;
             }
         }
@@ -232,26 +302,27 @@ public final class OracleRuns {
     public static void main(String[] args) {
         int runs = args.length > 0 ? Integer.parseInt(args[0]) : 60;
         long seed = args.length > 1 ? Long.parseLong(args[1]) : 1;
-        int wrong = 0;
+        List<OracleRuns> all = IntStream.range(0, runs * KINDS).parallel().mapToObj(n -> made(n, seed))
+                .collect(Collectors.toList());
         int mostLearned = 0;
         int forgotten = 0;
-        for (int n = 0; n < runs * KINDS; n++) {
-            OracleRuns run = new OracleRuns(n % KINDS, seed * 1000003 + n * 7919L);
-            if (!run.isRunAlike(n % 3 < 2 ? 512 : 150)) {
-                System.out.println("run " + n + " of kind " + run.kind + " is wrong");
-                wrong++;
-                break;
-            }
+        int wrong = 0;
+        for (OracleRuns run : all) {
             mostLearned = Math.max(mostLearned, run.oracle.mostLearned);
             forgotten += run.oracle.forgottenBySearch;
+            wrong += run.isFine ? 0 : 1;
+            if (!run.isFine && wrong == 1) {
+                System.out.println(String.join("\n", run.calls));
+                System.out.println("a run of kind " + run.kind + " is wrong");
+            }
         }
-        System.out.println("runs against the oracle: " + runs * KINDS + ", most learned " + mostLearned
+        System.out.println("runs against the oracle: " + all.size() + ", most learned " + mostLearned
                 + ", forgotten by searches " + forgotten);
-        if (runs >= 60 && (mostLearned < 40 || forgotten == 0)) {
+        if (runs >= 60 && (mostLearned < 40 || forgotten < 60)) {
             System.out.println("the runs do not reach 40 LEARNED clauses");
             wrong++;
         }
-        System.out.println(wrong == 0 ? "1 passed, 0 failed" : "0 passed, 1 failed");
+        System.out.println(wrong == 0 ? all.size() + " passed, 0 failed" : wrong + " failed");
         if (wrong != 0) {
             System.exit(1);
         }

@@ -9,67 +9,26 @@ public final class PromiseTests {
     private PromiseTests() {
     }
 
-    // ---- halls
+    // ---- helpers
 
-    /** CLAUSES 0 to 3 without a MODEL; VARIABLE 1 is false first. */
-    private static Clausehall hallWithoutModel() {
-        Clausehall x = new Clausehall();
-        x.wide(3);
-        x.tell(1, 2, 0, 0, 1);
-        x.tell(1, -2, 0, 0, 2);
-        x.tell(-1, 3, 0, 0, 3);
-        x.tell(-1, -3, 0, 0, 4);
-        x.sign(1, false);
-        return x;
-    }
-
-    /** CLAUSES 0 and 1 that show only behind three CHOICES that 1 and 3 go ill together. */
-    private static Clausehall hallWithJump() {
-        Clausehall x = new Clausehall();
-        x.wide(4);
-        x.tell(-1, -3, 4, 0, 1);
-        x.tell(-1, -3, -4, 0, 1);
-        return x;
-    }
-
-    /** PARTS {1, 2, 4} and {3, 5}; 6 is of none, since CLAUSE 3 is ALWAYS TRUE. */
-    private static Clausehall hallWithParts() {
-        Clausehall x = new Clausehall();
-        x.tell(1, 2, 0, 0, 5);
-        x.tell(-2, 4, 0, 0, 6);
-        x.tell(-3, 5, 0, 0, 7);
-        x.tell(6, -6, 1, 0, 8);
-        return x;
-    }
-
-    private static Clausehall typing(int... codes) {
-        Clausehall x = new Clausehall();
+    private static Hall typing(int... codes) {
+        Hall x = new Hall();
         type(x, codes);
         return x;
     }
 
-    private static void type(Clausehall x, int... codes) {
+    private static void type(Hall x, int... codes) {
         for (int code : codes) {
             x.say(code, -1, -1, -1, -1, -1);
         }
     }
 
-    private static String all(Clausehall x) {
-        StringBuilder s = new StringBuilder();
-        for (int what = 0; what <= 15; what++) {
-            s.append(x.house(what)).append(' ');
-        }
-        for (int number = 0; number < x.house(3); number++) {
-            try {
-                s.append(x.clause(number)).append(';');
-            } catch (IndexOutOfBoundsException e) {
-                s.append(".;");
-            }
-        }
-        return s.append(x.trailed()).append(x.typed()).append(x.digest()).toString();
+    /** In few calls what a change would show in; EdgeTests compare all. */
+    private static String all(Hall x) {
+        return x.trailed() + ";" + x.typed() + ";" + x.digest();
     }
 
-    private static void failsUnchanged(String name, Clausehall x, Class<?> want, Check.Call call) {
+    private static void failsUnchanged(String name, Hall x, Class<?> want, Check.Call call) {
         String before = all(x);
         Check.fails(name, want, call);
         Check.due(name + " changes nothing", before, all(x));
@@ -78,7 +37,7 @@ public final class PromiseTests {
     // ---- clauses
 
     private static void promise1() {
-        Clausehall x = new Clausehall();
+        Hall x = new Hall();
         int[] want = {6, 0, 0, 0, 0, 0, 0, 0, 0, 0, 0, 0, 0, 0, 0, 6};
         for (int what = 0; what <= 15; what++) {
             Check.due("1 house(" + what + ")", want[what], x.house(what));
@@ -88,11 +47,11 @@ public final class PromiseTests {
         Check.due("1 models", 64, x.models());
         Check.due("1 score", 0, x.score(6, 1));
         Check.due("1 sign", true, x.sign(6, false));
-        Check.due("1 apart", 0, new Clausehall().score(6, 1));
+        Check.due("1 apart", 0, new Hall().score(6, 1));
     }
 
     private static void promise2() {
-        Clausehall x = new Clausehall();
+        Hall x = new Hall();
         Check.due("2 wide", 6, x.wide(12));
         Check.due("2 wide", 12, x.wide(12));
         Check.due("2 models", 4096, x.models());
@@ -118,7 +77,7 @@ public final class PromiseTests {
     }
 
     private static void promise3() {
-        Clausehall x = new Clausehall();
+        Hall x = new Hall();
         Check.due("3 tell", 0, x.tell(6, -1, 6, 0, 9));
         Check.due("3 literals", "-1 6", x.clause(0));
         Check.due("3 tell", 1, x.tell(0, 0, 0, 0, 0));
@@ -136,14 +95,14 @@ public final class PromiseTests {
         }
         failsUnchanged("3 thirty", x, STATE, () -> x.tell(1, 0, 0, 0, 1));
         failsUnchanged("3 thirty", x, ARGUMENT, () -> x.tell(7, 0, 0, 0, 1));
-        Clausehall y = hallWithJump();
+        Hall y = Halls.jump();
         y.run(60);
         Check.due("3 tell", 3, y.tell(4, 0, 0, 0, 1));
         Check.due("3 starts anew", "0 0 1 1", y.house(4) + " " + y.house(6) + " " + y.house(2) + " " + y.house(7));
     }
 
     private static void promise4() {
-        Clausehall x = hallWithJump();
+        Hall x = Halls.jump();
         x.run(60);
         failsUnchanged("4 learned", x, INDEX, () -> x.drop(2));
         for (int wrong : new int[] {3, -1, LOW, HIGH}) {
@@ -161,7 +120,7 @@ public final class PromiseTests {
     }
 
     private static void promise5() {
-        Clausehall x = hallWithJump();
+        Hall x = Halls.jump();
         x.run(60);
         Check.due("5 weigh", 1, x.weigh(0, 9));
         Check.due("5 weigh", 9, x.weigh(0, 0));
@@ -177,7 +136,7 @@ public final class PromiseTests {
     }
 
     private static void promise6() {
-        Clausehall x = new Clausehall();
+        Hall x = new Hall();
         Check.due("6 atMost", 6, x.atMost(0b101101, 1));
         String[] want = {"-1 -3", "-1 -4", "-1 -6", "-3 -4", "-3 -6", "-4 -6"};
         for (int n = 0; n < 6; n++) {
@@ -207,7 +166,7 @@ public final class PromiseTests {
     }
 
     private static void promise7() {
-        Clausehall x = new Clausehall();
+        Hall x = new Hall();
         Check.due("7 say", 6, x.say(0, 11, 12, 13, 14, 15));
         Check.due("7 say", 9, x.say(16, -1, 17, 18, -1, -1));
         Check.due("7 typed", "al!*+>=()", x.typed());
@@ -228,7 +187,7 @@ public final class PromiseTests {
     }
 
     private static void promise8() {
-        Clausehall x = typing(0, 16, 2);
+        Hall x = typing(0, 16, 2);
         x.step();
         Check.due("8 sentence", 2, x.sentence());
         Check.due("8 stays", "a=c", x.typed());
@@ -258,7 +217,7 @@ public final class PromiseTests {
     }
 
     private static void promise8Thirty() {
-        Clausehall x = typing(0, 13, 1, 13, 2, 13, 3);
+        Hall x = typing(0, 13, 1, 13, 2, 13, 3);
         Check.due("8 fifteen", 15, x.sentence());
         Check.due("8 thirty", 15, x.sentence());
         failsUnchanged("8 more", x, STATE, x::sentence);
@@ -270,7 +229,7 @@ public final class PromiseTests {
         Check.due("8 fault at thirty", -1, x.sentence());
     }
 
-    private static void promise8Nothing(Clausehall x) {
+    private static void promise8Nothing(Hall x) {
         x.step();
         type(x, 20);
         Check.due("8 empty", -1, x.sentence());
@@ -284,7 +243,7 @@ public final class PromiseTests {
     }
 
     private static String clausesOf(int... codes) {
-        Clausehall x = new Clausehall();
+        Hall x = new Hall();
         x.wide(12);
         type(x, codes);
         int many = x.sentence();
@@ -296,7 +255,7 @@ public final class PromiseTests {
     }
 
     private static void promise9() {
-        Clausehall x = hallWithoutModel();
+        Hall x = Halls.noModel();
         x.score(2, 5);
         type(x, 0);
         x.run(60);
@@ -312,7 +271,7 @@ public final class PromiseTests {
     // ---- the search
 
     private static void promise10() {
-        Clausehall x = new Clausehall();
+        Hall x = new Hall();
         x.step();
         Check.due("10 score", 0, x.score(3, 99));
         Check.due("10 score", 99, x.score(3, 98));
@@ -328,7 +287,7 @@ public final class PromiseTests {
     }
 
     private static void promise11() {
-        Clausehall x = new Clausehall();
+        Hall x = new Hall();
         Check.due("11 sign", true, x.sign(2, false));
         Check.due("11 sign", false, x.sign(2, false));
         Check.due("11 sign", true, x.sign(3, true));
@@ -342,7 +301,7 @@ public final class PromiseTests {
     }
 
     private static void promise12() {
-        Clausehall x = hallWithoutModel();
+        Hall x = Halls.noModel();
         int[] want = {2, 1, 3, 1, 1, 5, 0, 0};
         String[] trails = {"| -1", "| -1 2", "", "1", "1 3", "1 3", "1 3", "1 3"};
         for (int n = 0; n < want.length; n++) {
@@ -353,7 +312,7 @@ public final class PromiseTests {
         Check.due("12 lines", "4 1 0/-1 3 2 4", x.line(0) + "/" + x.line(1));
         Check.due("12 use", "0 1", x.ofClause(0, 3) + " " + x.ofClause(4, 3));
         Check.due("12 answer", "2 0 2", x.house(4) + " " + x.house(5) + " " + x.house(14));
-        Clausehall y = hallWithJump();
+        Hall y = Halls.jump();
         int[] jump = {2, 2, 2, 1, 3, 1, 2, 2, 4, 0};
         String[] ways = {"| 1", "| 1 | 2", "| 1 | 2 | 3", "| 1 | 2 | 3 4", "| 1", "| 1 -3", "| 1 -3 | 2",
             "| 1 -3 | 2 | 4", "| 1 -3 | 2 | 4", "| 1 -3 | 2 | 4"};
@@ -362,14 +321,14 @@ public final class PromiseTests {
             Check.due("12 trailed " + n, ways[n], y.trailed());
         }
         Check.due("12 learned", "-1 -3", y.clause(2));
-        Clausehall z = new Clausehall();
+        Hall z = new Hall();
         z.tell(0, 0, 0, 0, 1);
         Check.due("12 empty", 5, z.step());
         Check.due("12 empty", "-1 0", z.line(0));
     }
 
     private static void promise13() {
-        Clausehall x = hallWithoutModel();
+        Hall x = Halls.noModel();
         Check.due("13 run", 2, x.run(2));
         Check.due("13 trailed", "| -1 2", x.trailed());
         Check.due("13 run", 4, x.run(60));
@@ -380,7 +339,7 @@ public final class PromiseTests {
     }
 
     private static void promise14() {
-        Clausehall x = hallWithoutModel();
+        Hall x = Halls.noModel();
         x.run(60);
         Check.due("14 anew", 2, x.anew());
         Check.due("14 anew", 0, x.anew());
@@ -390,7 +349,7 @@ public final class PromiseTests {
     }
 
     private static void promise15() {
-        Clausehall x = hallWithJump();
+        Hall x = Halls.jump();
         x.run(60);
         Check.due("15 reason", 0, x.forget(0));
         Check.due("15 stays", 1, x.house(2));
@@ -408,7 +367,7 @@ public final class PromiseTests {
 
     /** Two pairs as in hallWithJump: that of 4, 5, 6 is LEARNED of first, and used again by anew and a step. */
     private static void promise15BySmallestUse() {
-        Clausehall x = new Clausehall();
+        Hall x = new Hall();
         x.tell(-4, -5, 6, 0, 1);
         x.tell(-4, -5, -6, 0, 1);
         x.tell(-1, -2, 3, 0, 1);
@@ -427,7 +386,7 @@ public final class PromiseTests {
     }
 
     private static void promise16() {
-        Clausehall x = new Clausehall();
+        Hall x = new Hall();
         Check.due("16 blank", -9, x.blank());
         Check.due("16 blank", -9, x.blank());
         Check.due("16 counted", "2 0", x.house(8) + " " + x.house(9));
@@ -437,7 +396,7 @@ public final class PromiseTests {
     }
 
     private static void promise17() {
-        Clausehall x = new Clausehall();
+        Hall x = new Hall();
         Check.due("17 knock", 1, x.knock());
         Check.due("17 knock", 2, x.knock());
         x.clear();
@@ -448,7 +407,7 @@ public final class PromiseTests {
     // ---- what is asked of clauses and the search
 
     private static void promise18() {
-        Clausehall x = new Clausehall();
+        Hall x = new Hall();
         x.wide(12);
         x.tell(-12, 1, 12, -1, 0);
         x.tell(0, 0, 0, 0, 0);
@@ -461,7 +420,7 @@ public final class PromiseTests {
     }
 
     private static void promise19() {
-        Clausehall x = hallWithoutModel();
+        Hall x = Halls.noModel();
         x.run(4);
         int[][] want = {{2, 0, 1, 0, 0, 0, 0, -1}, {2, 0, 2, 0, 0, 0, 0, -1}, {2, 0, 3, 0, 0, 2, 0, -1},
             {2, 0, 4, 0, 0, 2, 0, -1}, {1, 1, 0, 0, 0, 0, 1, -1}};
@@ -482,7 +441,7 @@ public final class PromiseTests {
     }
 
     private static void promise19In() {
-        Clausehall x = new Clausehall();
+        Hall x = new Hall();
         x.tell(1, 2, 3, 0, 1);
         x.tell(2, 1, 0, 0, 1);
         x.tell(1, 2, 0, 0, 1);
@@ -500,7 +459,7 @@ public final class PromiseTests {
     }
 
     private static void promise19InLearned() {
-        Clausehall x = hallWithJump();
+        Hall x = Halls.jump();
         x.run(60);
         Check.due("19 learned", -1, x.ofClause(2, 7));
         x.tell(-1, -3, 0, 0, 1);
@@ -512,7 +471,7 @@ public final class PromiseTests {
     }
 
     private static void promise20() {
-        Clausehall x = hallWithJump();
+        Hall x = Halls.jump();
         x.run(60);
         int[][] want = {{1, 1, -1}, {-3, 1, 2}, {2, 2, -1}, {4, 3, -1}};
         for (int nth = 0; nth < 4; nth++) {
@@ -528,7 +487,7 @@ public final class PromiseTests {
     }
 
     private static void promise21() {
-        Clausehall x = new Clausehall();
+        Hall x = new Hall();
         Check.due("21 none", "", x.trailed());
         x.tell(-3, 0, 0, 0, 1);
         x.run(3);
@@ -536,7 +495,7 @@ public final class PromiseTests {
     }
 
     private static void promise22() {
-        Clausehall x = hallWithoutModel();
+        Hall x = Halls.noModel();
         Check.due("22 none", "!", x.line(0));
         x.run(60);
         Check.due("22 line", "4 1 0", x.line(0));
@@ -553,7 +512,7 @@ public final class PromiseTests {
     }
 
     private static void promise23() {
-        Clausehall x = hallWithParts();
+        Hall x = Halls.parts();
         type(x, 0, 1);
         x.blank();
         x.knock();
@@ -563,7 +522,7 @@ public final class PromiseTests {
         for (int what = 0; what <= 15; what++) {
             Check.due("23 house(" + what + ")", want[what], x.house(what));
         }
-        Clausehall y = hallWithoutModel();
+        Hall y = Halls.noModel();
         y.run(60);
         int[] ended = {3, 4, 1, 5, 2, 0, 2, 2, 0, 0, 10, 1, 0, 1, 2, 0};
         for (int what = 0; what <= 15; what++) {
@@ -577,7 +536,7 @@ public final class PromiseTests {
     }
 
     private static void promise24() {
-        Clausehall x = typing(0, 1, 2, 3, 4, 5, 6, 7, 8, 9, 10, 11, 12, 13, 14, 15, 16, 17, 18);
+        Hall x = typing(0, 1, 2, 3, 4, 5, 6, 7, 8, 9, 10, 11, 12, 13, 14, 15, 16, 17, 18);
         Check.due("24 typed", "abcdefghijkl!*+>=()", x.typed());
         x.say(20, -1, -1, -1, -1, -1);
         Check.due("24 empty", "", x.typed());
@@ -597,7 +556,7 @@ public final class PromiseTests {
         Check.due("25 four open", 4, typing(17, 17, 17, 17, 17, 0).fault());
         Check.due("25 four open", -1, typing(17, 17, 17, 17, 0, 18, 18, 18, 18, 14, 17, 0, 18).fault());
         Check.due("25 all signs", -1, typing(12, 12, 17, 0, 14, 1, 18, 13, 2, 15, 3, 16, 4, 15, 5).fault());
-        Clausehall x = new Clausehall();
+        Hall x = new Hall();
         for (int n = 0; n < 39; n++) {
             x.say(12, -1, -1, -1, -1, -1);
         }
@@ -611,9 +570,9 @@ public final class PromiseTests {
     // ---- models
 
     private static void promise26() {
-        Check.due("26 models", 4 * 3 * 2, hallWithParts().models());
-        Check.due("26 none", 0, hallWithoutModel().models());
-        Clausehall x = new Clausehall();
+        Check.due("26 models", 4 * 3 * 2, Halls.parts().models());
+        Check.due("26 none", 0, Halls.noModel().models());
+        Hall x = new Hall();
         int[] widths = {1, 5, 7, 12};
         for (int width : widths) {
             x.wide(width);
@@ -626,7 +585,7 @@ public final class PromiseTests {
     }
 
     private static void promise27() {
-        Clausehall x = new Clausehall();
+        Hall x = new Hall();
         x.wide(3);
         x.tell(1, 3, 0, 0, 1);
         String[] want = {"-1 -2 3", "-1 2 3", "1 -2 -3", "1 -2 3", "1 2 -3", "1 2 3", "!"};
@@ -636,17 +595,17 @@ public final class PromiseTests {
         Check.due("27 far", "!", x.model(HIGH));
         failsUnchanged("27 below", x, ARGUMENT, () -> x.model(-1));
         failsUnchanged("27 below", x, ARGUMENT, () -> x.model(LOW));
-        Clausehall y = new Clausehall();
+        Hall y = new Hall();
         y.wide(12);
         Check.due("27 wide", "1 2 3 4 5 6 7 8 9 10 11 12", y.model(4095));
         Check.due("27 wide", "-1 -2 -3 -4 -5 6 -7 -8 -9 -10 -11 12", y.model(65));
-        Check.due("27 none", "!", hallWithoutModel().model(0));
+        Check.due("27 none", "!", Halls.noModel().model(0));
     }
 
     private static void promise28() {
-        Check.due("28 none", "", new Clausehall().fixed());
-        Check.due("28 no MODEL", "!", hallWithoutModel().fixed());
-        Clausehall x = hallWithParts();
+        Check.due("28 none", "", new Hall().fixed());
+        Check.due("28 no MODEL", "!", Halls.noModel().fixed());
+        Hall x = Halls.parts();
         Check.due("28 none", "", x.fixed());
         x.tell(-4, 0, 0, 0, 1);
         Check.due("28 fixed", "1 -2 -4", x.fixed());
@@ -657,7 +616,7 @@ public final class PromiseTests {
     }
 
     private static void promise29() {
-        Clausehall x = hallWithParts();
+        Hall x = Halls.parts();
         Check.due("29 sets", "11 20", x.part(0, false) + " " + x.part(1, false));
         Check.due("29 models", "4 3", x.part(0, true) + " " + x.part(1, true));
         for (int wrong : new int[] {2, -1, LOW, HIGH}) {
@@ -670,7 +629,7 @@ public final class PromiseTests {
     }
 
     private static void promise30() {
-        Clausehall x = hallWithParts();
+        Hall x = Halls.parts();
         int[][] want = {{2, 0, 0, 1}, {1, 1, 1, 0}, {0, 1, 0, 1}, {1, 0, 0, 1}, {1, 0, 0, 1}, {1, 1, 0, 1}};
         for (int variable = 1; variable <= 6; variable++) {
             for (int what = 0; what < 4; what++) {
@@ -691,7 +650,7 @@ public final class PromiseTests {
     // ---- what is assumed, cores, weights
 
     private static void promise31() {
-        Clausehall x = hallWithParts();
+        Hall x = Halls.parts();
         Check.due("31 nothing", 24, x.assume(0, 0));
         Check.due("31 yes", 18, x.assume(1, 0));
         Check.due("31 no", 6, x.assume(0, 1));
@@ -707,17 +666,17 @@ public final class PromiseTests {
     }
 
     private static void promise32() {
-        Clausehall x = hallWithParts();
+        Hall x = Halls.parts();
         Check.due("32 fine", "", x.failing(1, 8));
         Check.due("32 two", "-1 -2", x.failing(0, 0b1011));
         Check.due("32 first", "2 -4", x.failing(0b110, 0b11000));
         Check.due("32 second", "3 -5", x.failing(0b100, 0b11010));
-        Check.due("32 no MODEL", "-", hallWithoutModel().failing(7, 0));
-        Check.due("32 no MODEL", "-", hallWithoutModel().failing(0, 0));
+        Check.due("32 no MODEL", "-", Halls.noModel().failing(7, 0));
+        Check.due("32 no MODEL", "-", Halls.noModel().failing(0, 0));
         x.tell(-6, -5, -3, 0, 1);
         x.tell(6, 0, 0, 0, 1);
         Check.due("32 three and one", "3", x.failing(0b110111, 0));
-        Clausehall y = new Clausehall();
+        Hall y = new Hall();
         y.wide(12);
         y.tell(-3, -5, -9, 0, 1);
         y.tell(-2, -10, -9, 0, 1);
@@ -727,7 +686,7 @@ public final class PromiseTests {
     }
 
     private static void promise33() {
-        Clausehall x = hallWithParts();
+        Hall x = Halls.parts();
         Check.due("33 none", "", x.follows(0, 0));
         Check.due("33 chain", "2 4", x.follows(0, 1));
         Check.due("33 against", "!", x.follows(0, 9));
@@ -738,15 +697,15 @@ public final class PromiseTests {
         Check.due("33 alone", "3 5", x.follows(0, 0));
         x.tell(0, 0, 0, 0, 1);
         Check.due("33 empty", "!", x.follows(0, 0));
-        Clausehall y = hallWithJump();
+        Hall y = Halls.jump();
         y.run(60);
         Check.due("33 told alone", "", y.follows(1, 0));
     }
 
     private static void promise34() {
-        Check.due("34 MODEL", "!", new Clausehall().core());
-        Check.due("34 all", "0 1 2 3", hallWithoutModel().core());
-        Clausehall x = hallWithoutModel();
+        Check.due("34 MODEL", "!", new Hall().core());
+        Check.due("34 all", "0 1 2 3", Halls.noModel().core());
+        Hall x = Halls.noModel();
         x.tell(-1, 2, 0, 0, 1);
         x.tell(-1, -2, 0, 0, 1);
         Check.due("34 last ones stay", "0 1 4 5", x.core());
@@ -757,8 +716,8 @@ public final class PromiseTests {
     }
 
     private static void promise35() {
-        Check.due("35 MODEL", -1, new Clausehall().leastCore());
-        Clausehall x = hallWithoutModel();
+        Check.due("35 MODEL", -1, new Hall().leastCore());
+        Hall x = Halls.noModel();
         Check.due("35 four", 4, x.leastCore());
         x.tell(-1, 0, 0, 0, 1);
         Check.due("35 three", 3, x.leastCore());
@@ -766,7 +725,7 @@ public final class PromiseTests {
         Check.due("35 two", 2, x.leastCore());
         x.tell(0, 0, 0, 0, 1);
         Check.due("35 one", 1, x.leastCore());
-        Clausehall y = new Clausehall();
+        Hall y = new Hall();
         y.tell(1, 0, 0, 0, 1);
         y.tell(-1, 2, 0, 0, 1);
         y.tell(-2, 3, 0, 0, 1);
@@ -780,7 +739,7 @@ public final class PromiseTests {
     }
 
     private static void promise36() {
-        Clausehall x = new Clausehall();
+        Hall x = new Hall();
         Check.due("36 nothing", "0 0", x.best(false) + " " + x.best(true));
         x.wide(3);
         x.tell(1, 0, 0, 0, 4);
@@ -799,82 +758,33 @@ public final class PromiseTests {
     }
 
     private static void promise37() {
-        Check.due("37 new", true, new Clausehall().isSound());
-        for (Clausehall x : new Clausehall[] {hallWithoutModel(), hallWithJump(), hallWithParts()}) {
+        Check.due("37 new", true, new Hall().isSound());
+        for (Hall x : new Hall[] {Halls.noModel(), Halls.jump(), Halls.parts()}) {
             for (int n = 0; n < 20; n++) {
                 Check.due("37 sound", true, x.isSound());
                 x.step();
             }
         }
-        Clausehall y = new Clausehall();
+        Hall y = new Hall();
         y.tell(0, 0, 0, 0, 1);
         y.step();
         Check.due("37 empty", true, y.isSound());
     }
 
     private static void promise38() {
-        Clausehall[] halls = {new Clausehall(), hallWithoutModel(), hallWithJump(), hallWithParts()};
-        for (Clausehall x : halls) {
-            type(x, 0, 14);
-            x.blank();
-            for (int n = 0; n < 12; n++) {
-                Check.due("38 digest", digestByFace(x), x.digest());
+        Edges.Recipe[] recipes = {Hall::new, Halls::noModel, Halls::jump, Halls::parts};
+        for (Edges.Recipe recipe : recipes) {
+            for (int steps = 0; steps < 12; steps++) {
+                Hall x = recipe.make();
+                type(x, 0, 14);
+                x.blank();
+                for (int n = 0; n < steps; n++) {
+                    x.step();
+                }
+                Check.due("38 digest", EdgesOfModels.byFace(x), x.digest());
                 Check.due("38 again", x.digest(), x.digest());
-                x.step();
-            }
-            x.anew();
-            for (int n = 0; n < 10; n++) {
-                x.anew();
-                x.run(60);
-            }
-            Check.due("38 digest", digestByFace(x), x.digest());
-        }
-    }
-
-    private static long add(long d, long number) {
-        return d * 31 + number;
-    }
-
-    private static long digestByFace(Clausehall x) {
-        long d = 7057;
-        for (int what = 0; what <= 15; what++) {
-            d = add(d, x.house(what));
-        }
-        for (int clause = 0; clause < x.house(3); clause++) {
-            try {
-                x.clause(clause);
-            } catch (IndexOutOfBoundsException e) {
-                continue;
-            }
-            d = add(d, clause);
-            for (int what = 0; what <= 7; what++) {
-                d = add(d, x.ofClause(clause, what));
-            }
-            d = add(d, x.clause(clause).length());
-        }
-        for (int place = 0; place < x.house(6); place++) {
-            for (int what = 0; what <= 2; what++) {
-                d = add(d, x.trail(place, what));
             }
         }
-        int lines = x.house(7);
-        for (int nth = lines - 1; nth >= Math.max(0, lines - 8); nth--) {
-            d = add(d, x.line(nth).length());
-        }
-        d = add(add(d, x.fault()), x.models());
-        d = add(add(d, x.model(0).length()), x.fixed().length());
-        for (int part = 0; part < x.house(11); part++) {
-            d = add(add(d, x.part(part, true)), x.part(part, false));
-        }
-        for (int variable = 1; variable <= x.house(0); variable++) {
-            for (int what = 0; what <= 3; what++) {
-                d = add(d, x.ofVariable(variable, what));
-            }
-        }
-        d = add(add(d, x.assume(1, 0)), x.failing(1, 0).length());
-        d = add(add(d, x.follows(1, 0).length()), x.core().length());
-        d = add(add(d, x.best(false)), x.best(true));
-        return add(d, x.isSound() ? 1 : 0);
     }
 
     public static void main(String[] args) {

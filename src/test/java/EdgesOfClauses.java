@@ -784,21 +784,23 @@ final class EdgesOfClauses {
             for (Edges.Recipe state : Halls.states()) {
                 for (Edges.Call one : changes) {
                     for (Edges.Call other : changes) {
-                        Check.due("what is asked between changes nothing", changed(state, one, other, false),
-                                changed(state, one, other, true));
+                        String due = changed(state, one, other, false, false);
+                        Check.due("asked ahead", due, changed(state, one, other, true, false));
+                        Check.due("asked ahead and between", due, changed(state, one, other, true, true));
                     }
                 }
             }
         });
     }
 
-    private static String changed(Edges.Recipe state, Edges.Call one, Edges.Call other, boolean isAsked) {
+    private static String changed(Edges.Recipe state, Edges.Call one, Edges.Call other, boolean isAskedAhead,
+            boolean isAskedBetween) {
         Hall x = state.make();
-        if (isAsked) {
+        if (isAskedAhead) {
             askAll(x);
         }
         Edges.ask(x, one);
-        if (isAsked) {
+        if (isAskedBetween) {
             askAll(x);
         }
         Edges.ask(x, other);

@@ -165,7 +165,55 @@ final class EdgesOfModels {
                 z.add();
             }
             Check.due("one of thirty empty ones", 1, z.leastCore());
+            leastCoresByTrying();
         });
+    }
+
+    /** Halls of ten CLAUSES of up to five VARIABLES, against each set of five of these CLAUSES at most. */
+    private static void leastCoresByTrying() {
+        int[] counts = new int[7];
+        for (int seed = 1; seed <= 90; seed++) {
+            int many = seed % 4 + 2;
+            int width = seed % 3 == 0 ? 12 : many;
+            int[] five = width == 12 ? new int[] {1, 3, 6, 7, 12} : new int[] {1, 2, 3, 4, 5};
+            int[][] clauses = new int[10][];
+            long s = seed * 7919L;
+            for (int n = 0; n < clauses.length; n++) {
+                clauses[n] = new int[n == 0 && seed % 2 == 0 ? 1 : n < 2 ? 3 : 2];
+                for (int at = 0; at < clauses[n].length; at++) {
+                    s = s * 6364136223846793005L + 1442695040888963407L;
+                    int variable = five[(int) (s >>> 40) % many];
+                    clauses[n][at] = (s >>> 20 & 1) == 0 ? variable : -variable;
+                }
+            }
+            int due = leastByTrying(clauses, width);
+            counts[due + 1]++;
+            Check.due("hall " + seed, due, hallOf(clauses, width, -1).leastCore());
+        }
+        for (int due = 2; due <= 4; due++) {
+            Check.due("halls with " + due, true, counts[due + 1] >= 5);
+        }
+        Check.due("halls with a MODEL, or more than five", true, counts[0] >= 5);
+    }
+
+    private static Hall hallOf(int[][] clauses, int width, int chosen) {
+        Hall x = Halls.wide(width);
+        for (int n = 0; n < clauses.length; n++) {
+            if ((chosen >> n & 1) != 0) {
+                x.add(clauses[n]);
+            }
+        }
+        return x;
+    }
+
+    private static int leastByTrying(int[][] clauses, int width) {
+        int least = 6;
+        for (int chosen = 0; chosen < 1 << clauses.length; chosen++) {
+            if (Integer.bitCount(chosen) < least && hallOf(clauses, width, chosen).models() == 0) {
+                least = Integer.bitCount(chosen);
+            }
+        }
+        return least == 6 ? -1 : least;
     }
 
     private static void whoIsInWhom() {
@@ -469,6 +517,10 @@ final class EdgesOfModels {
             Check.due("nothing without anything", "", x.follows(0, 0));
             Check.due("from both", "9 10 11 12 -4 -3 -2 -1", x.follows(128, 16));
             Check.due("against", "! !", x.follows(1, 2048) + " " + x.follows(1, 2));
+            Hall v = chain(13);
+            Check.due("against all twelve that follow", "!", v.follows(0, 0));
+            v.drop(12);
+            Check.due("all twelve follow", "1 2 3 4 5 6 7 8 9 10 11 12", v.follows(0, 0));
             Check.due("all are assumed", "\"\" !", "\"" + x.follows(4095, 0) + "\" " + x.follows(2047, 2048));
             Hall y = Halls.wide(3);
             y.add(-3, 2);

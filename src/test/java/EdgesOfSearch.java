@@ -720,6 +720,9 @@ final class EdgesOfSearch {
             Check.due("one, none, 38, one", "1 0 38 1 0", x.forget(39) + " " + x.forget(39) + " " + x.forget(1) + " "
                     + x.forget(0) + " " + x.forget(0));
             Check.due("of a new hall", "0 0", new Hall().forget(0) + " " + new Hall().forget(40));
+            Hall y = new Forty(1, 2, 3, 4, 5, 6, 7, 8).pairs(36).ones(5, 6, 7, 8).hall;
+            y.anew();
+            Check.due("all forty", "40 0", y.forget(0) + " " + y.house(2));
         });
         edge("P15", "Throws `IllegalArgumentException` if most is not 0 to 40", () -> {
             for (int wrong : new int[] {-1, 41, LOW, HIGH}) {

@@ -1,3 +1,5 @@
+import java.util.Arrays;
+
 /**
  * A Clausehall that counts its calls, refused ones too: what it answers behind the 512th is free, so no
  * test may ask for it.
@@ -199,7 +201,7 @@ final class Hall {
 
     /** Tells a CLAUSE of up to four LITERALS with WEIGHT 1. */
     int add(int... literals) {
-        int[] four = java.util.Arrays.copyOf(literals, 4);
+        int[] four = Arrays.copyOf(literals, 4);
         return tell(four[0], four[1], four[2], four[3], 1);
     }
 
